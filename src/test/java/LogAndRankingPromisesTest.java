@@ -111,6 +111,7 @@ public final class LogAndRankingPromisesTest {
         mill.setMesh(6, 0);
         mill.addNoise(6, 9, 1);
         mill.advance(1);
+        mill.setMesh(6, 9);
         CHECKS.equal("band 6 has 2 of grade 1 and 1 of grade 0", bands(mill), "62570134");
         for (int rank : new int[] {-1, 8, Integer.MIN_VALUE, Integer.MAX_VALUE}) {
             CHECKS.fails("bandByGrains " + rank, Mills.ELEMENT, () -> mill.bandByGrains(rank));
@@ -142,6 +143,10 @@ public final class LogAndRankingPromisesTest {
         mill.setGear(0, 2);
         mill.advance(1);
         CHECKS.equal("1 of 6", mill.lostShare(), 1.0f / 6.0f);
+        NoiseMill single = new NoiseMill();
+        single.addNoise(0, 1, 1);
+        single.advance(1);
+        CHECKS.equal("0 of 1", single.lostShare(), 0.0f);
         NoiseMill brimful = Mills.brimful();
         brimful.setMesh(1, 2);
         brimful.addNoise(1, 1, 10);

@@ -19,6 +19,7 @@ public final class OutputAndScriptPromisesTest {
         promise54RunScript();
         promise54EachCommand();
         promises54And56FailedCommands();
+        promise54ReadsNoFurtherThanTyped();
         promise54IsOneChange();
         promise55ErrorPositions();
         promise55EveryWrongSign();
@@ -207,6 +208,21 @@ public final class OutputAndScriptPromisesTest {
             left = mill.undo();
         }
         return count;
+    }
+
+    private static void promise54ReadsNoFurtherThanTyped() {
+        NoiseMill mill = new NoiseMill();
+        run(mill, "step 12;mesh 1 1", 2);
+        run(mill, "step 1", 1);
+        CHECKS.equal("not 12 steps more", mill.time(), 13);
+        wrongForm(mill, "step 1;", 7);
+        wrongForm(mill, "step 1;mes", 10);
+        run(mill, "step", 1);
+        CHECKS.equal("time", mill.time(), 14);
+        run(mill, "step;step;step;step;step;step;step;step;step 2;step 2;step 2", 11);
+        CHECKS.equal("60 characters, a digit last", mill.time(), 28);
+        wrongForm(mill, "step;step;step;step;step;step;step;step;step 2;noise 1 1 1;s", 60);
+        wrongForm(mill, "step;step;step;step;step;step;step;step;step;step;step;step ", 60);
     }
 
     private static void promise54IsOneChange() {

@@ -9,7 +9,7 @@ public final class PredictionPromisesTest {
         promises37And38StepsUntilDone();
         promises37And38EveryStart();
         promise39StepsUntilJam();
-        promise39EdgeOfSixty();
+        promise39ByTheWorkThatIsLeft();
         promise40GroundWithin();
         predictionsChangeNothing();
         CHECKS.end();
@@ -102,8 +102,8 @@ public final class PredictionPromisesTest {
         }
     }
 
-    /** Wheels 0 and 1 jam at once; then what wheel 2 does takes as long as its work lasts. */
-    private static void promise39EdgeOfSixty() {
+    /** No wheel stands idle while noises wait, so it jams within 12 steps or never. */
+    private static void promise39ByTheWorkThatIsLeft() {
         NoiseMill mill = new NoiseMill();
         for (int count = 0; count < 11; count++) {
             mill.addNoise(0, 1, 1);

@@ -9,6 +9,7 @@ public final class UndoPromisesTest {
         promise57EveryChange();
         promise57OnlyEight();
         promise57NumbersAnew();
+        promise57LostGrains();
         promise57Refusals();
         promise57LeavesTextsAlone();
         promises58And59Snapshot();
@@ -70,6 +71,22 @@ public final class UndoPromisesTest {
         CHECKS.equal("exists", mill.exists(1), false);
         CHECKS.equal("addNoise", mill.addNoise(3, 3, 30), 1);
         CHECKS.equal("band", mill.band(1), 3);
+    }
+
+    private static void promise57LostGrains() {
+        NoiseMill mill = Mills.brimful();
+        mill.setMesh(0, 2);
+        mill.addNoise(0, 1, 20);
+        String before = Mills.state(mill);
+        mill.advance(1);
+        CHECKS.equal("lostForRoom", mill.lostForRoom(), 8);
+        mill.undo();
+        CHECKS.equal("lostForRoom", mill.lostForRoom(), 0);
+        CHECKS.equal("lostInSieves", mill.lostInSieves(), 0);
+        CHECKS.equal("state", Mills.state(mill), before);
+        CHECKS.equal("what is lost comes again", mill.advance(2), 20);
+        CHECKS.equal("lostForRoom", mill.lostForRoom(), 16);
+        CHECKS.holds("isConsistent", mill.isConsistent());
     }
 
     private static void promise57Refusals() {
