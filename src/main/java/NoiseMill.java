@@ -106,10 +106,11 @@ public final class NoiseMill {
     }
 
     public int waitingAt(int rank) throws NoSuchElementException {
-        if (rank < 0 || rank >= now.noises.waiting) {
+        int slot = slotAtRank(rank);
+        if (slot == NONE) {
             throw new NoSuchElementException("no such rank");
         }
-        return now.noises.numbers[slotAtRank(rank)];
+        return now.noises.numbers[slot];
     }
 
     public int rankOf(int noise) throws NoSuchElementException, IllegalStateException {
@@ -481,7 +482,11 @@ public final class NoiseMill {
         return steps;
     }
 
+    /** Returns the slot of the waiting noise at a rank, or NONE. */
     private int slotAtRank(int rank) {
+        if (rank < 0 || rank >= now.noises.waiting) {
+            return NONE;
+        }
         queue.fill(now.noises);
         for (int taken = 0; taken < rank; taken++) {
             queue.take(now.noises);
@@ -879,7 +884,9 @@ public final class NoiseMill {
             System.arraycopy(other.bands, 0, bands, 0, SLOTS);
             System.arraycopy(other.loudnesses, 0, loudnesses, 0, SLOTS);
             System.arraycopy(other.amounts, 0, amounts, 0, SLOTS);
-            System.arraycopy(other.held, 0, held, 0, WHEELS);
+            for (int wheel = 0; wheel < WHEELS; wheel++) {
+                held[wheel] = other.held[wheel];
+            }
             waiting = other.waiting;
             nextNumber = other.nextNumber;
         }
@@ -1057,7 +1064,9 @@ public final class NoiseMill {
             System.arraycopy(other.grains, 0, grains, 0, GRADES);
             System.arraycopy(other.shipped, 0, shipped, 0, GRADES);
             System.arraycopy(other.records, 0, records, 0, ROWS);
-            System.arraycopy(other.bandsGround, 0, bandsGround, 0, BANDS);
+            for (int band = 0; band < BANDS; band++) {
+                bandsGround[band] = other.bandsGround[band];
+            }
             ground = other.ground;
             sieved = other.sieved;
             spilt = other.spilt;

