@@ -33,7 +33,8 @@ public final class AnswersTest {
         bandsGround();
         document.says("Promise 31", "Returns the number of sacks of a grade that were shipped so far.");
         sacksShipped();
-        document.says("Promise 37", "Predicts after how many steps the noise that a wheel holds is done, by simulation.");
+        document.says("Promise 37",
+            "Predicts after how many steps the noise that a wheel holds is done, by simulation.");
         document.says("Promise 38", "Predicts the same number as stepsUntilDone, computed from amount, gear and wear.");
         stepsUntilDone();
         document.says("Promise 39", "Returns the number of steps, 0 if it is jammed now.");
@@ -42,10 +43,12 @@ public final class AnswersTest {
         groundWithin();
         document.says("Promise 42", "`recency`: 0 for the latest one, 1 for the one before, and so on");
         recency();
-        document.says("Promise 45", "Returns the wheel at a rank when wheels are sorted by wear in descending order, then "
+        document.says("Promise 45",
+            "Returns the wheel at a rank when wheels are sorted by wear in descending order, then "
             + "by gear in descending order, then by number in ascending order.");
         wheelsSorted();
-        document.says("Promise 46", "Returns the band at a rank when bands are sorted by the grains recorded for them in "
+        document.says("Promise 46",
+            "Returns the band at a rank when bands are sorted by the grains recorded for them in "
             + "all grades in descending order, then by mesh in ascending order, then by number in ascending order.");
         bandsSorted();
         document.says("Promise 47", "Returns the mean loudness of the waiting noises: the sum divided by the number of "
@@ -54,13 +57,16 @@ public final class AnswersTest {
         document.says("Promise 48", "Returns the share of lost grains, in sieves or for want of room, among the ground "
             + "ones, both numbers converted to float.");
         lostShare();
-        document.says("Promise 49", "stepsUntilDone and stepsUntilDoneByRate agree for all wheels or both find nothing");
+        document.says("Promise 49",
+            "stepsUntilDone and stepsUntilDoneByRate agree for all wheels or both find nothing");
         consistentInEveryState();
-        document.says("Promise 50", "Replaces the output text by a description of a wheel: its number, \"g\", its gear, "
+        document.says("Promise 50",
+            "Replaces the output text by a description of a wheel: its number, \"g\", its gear, "
             + "\"w\", its wear, \"!\" if it is jammed, and \":\", the number of the noise that it holds, \"x\" and the amount "
             + "of the noise, or \":-\" if it holds none, as in \"0g3w6:5x18\".");
         wheelTexts();
-        document.says("Promise 51", "for each the number of full sacks, \"+\" and the grains in the open sack, as in \"2+15 "
+        document.says("Promise 51",
+            "for each the number of full sacks, \"+\" and the grains in the open sack, as in \"2+15 "
             + "0+0 6+19 0+3\".");
         sackTexts();
         document.says("Promise 52", "Returns a character of the output text, which is empty initially.");
@@ -319,8 +325,8 @@ public final class AnswersTest {
     }
 
     private static void wheelsSorted() {
-        int[][] gears = {{1, 1, 1, 0, 1, 2}, {1, 1, 5, 2, 0, 1}, {1, 5, 5, 1, 2, 0}, {2, 5, 1, 1, 0, 2}, {3, 2, 1, 0, 1, 2},
-            {2, 1, 2, 0, 2, 1}};
+        int[][] gears = {{1, 1, 1, 0, 1, 2}, {1, 1, 5, 2, 0, 1}, {1, 5, 5, 1, 2, 0}, {2, 5, 1, 1, 0, 2},
+            {3, 2, 1, 0, 1, 2}, {2, 1, 2, 0, 2, 1}};
         for (int[] six : gears) {
             NoiseMill mill = new NoiseMill();
             for (int wheel = 0; wheel < 3; wheel++) {
@@ -400,7 +406,8 @@ public final class AnswersTest {
         CHECKS.equal("a removed one is not counted", two.meanLoudness(), 1.5);
         mill.advance(1);
         mill.addNoise(0, 1, 60);
-        CHECKS.equal("nor are the 9, 8 and 8 on wheels, but the new 1", mill.meanLoudness(), (double) (sum - 24) / 10.0);
+        double due = (double) (sum - 24) / 10.0;
+        CHECKS.equal("nor are the 9, 8 and 8 on wheels, but the new 1", mill.meanLoudness(), due);
     }
 
     private static void lostShare() {

@@ -77,7 +77,8 @@ public final class FaceTest {
         Class<?>[] inside = NoiseMill.class.getDeclaredClasses();
         checks.holds("at most 12 classes", inside.length < 12);
         for (Class<?> one : inside) {
-            checks.equal(one + " is public or protected", one.getModifiers() & (Modifier.PUBLIC | Modifier.PROTECTED), 0);
+            checks.holds(one + " is private or package-visible",
+                !Modifier.isPublic(one.getModifiers()) && !Modifier.isProtected(one.getModifiers()));
             for (Field field : one.getDeclaredFields()) {
                 checks.holds(field + " is no variable of the class",
                     !Modifier.isStatic(field.getModifiers()) || Modifier.isFinal(field.getModifiers()));

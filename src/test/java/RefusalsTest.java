@@ -17,6 +17,7 @@ public final class RefusalsTest {
 
     public static void main(String[] args) throws IOException {
         document = new Document(CHECKS);
+        document.says("Terms", "A method that throws an exception changes nothing, unless its description says otherwise.");
         promise2AddNoise();
         promise3RemoveNoise();
         promise4SetGear();

@@ -16,9 +16,10 @@ public final class ScriptsAndChangesTest {
         bufferOf60();
         document.says("Terms", "`script = command { \";\" command`}");
         oneCommandOrMore();
-        document.says("Terms", "`command = \"noise \" digit \" \" digit \" \" number | \"drop \" number | \"gear \" digit \" \" "
-            + "digit | \"mesh \" digit \" \" digit | \"clear \" digit | \"release \" digit | \"ship \" digit \" \" digit | "
-            + "\"step\" [ \" \" number ]`");
+        document.says("Terms",
+            "`command = \"noise \" digit \" \" digit \" \" number | \"drop \" number | \"gear \" digit \" \" "
+            + "digit | \"mesh \" digit \" \" digit | \"clear \" digit | \"release \" digit | "
+            + "\"ship \" digit \" \" digit | \"step\" [ \" \" number ]`");
         formsOfCommands();
         document.says("Terms", "`number = digit [ digit ]`");
         numbersOfOneOrTwoDigits();
@@ -33,14 +34,16 @@ public final class ScriptsAndChangesTest {
             + "and the script ends too early.");
         firstWrongCharacter();
         endsTooEarly();
-        document.says("Terms", "A change is a call of addNoise, removeNoise, setGear, setMesh, clearWheel, releaseNoise, "
+        document.says("Terms",
+            "A change is a call of addNoise, removeNoise, setGear, setMesh, clearWheel, releaseNoise, "
             + "shipSacks, advance or runScript that returns normally, even if the state is the same afterwards.");
         changesThatChangeNothing();
         eachChangeCounts();
         othersAreNoChanges();
         document.says("Terms", "The latest 8 changes can be undone, the latest one first.");
         latestEight();
-        document.says("Terms", "Undo and the snapshot cover everything except the script buffer, the error position, the "
+        document.says("Terms",
+            "Undo and the snapshot cover everything except the script buffer, the error position, the "
             + "index of the failed command, the output text and the snapshot itself; so a number that was given in a "
             + "change that is undone is given anew.");
         undoCoversTheState();
@@ -53,7 +56,8 @@ public final class ScriptsAndChangesTest {
         bufferIsEmptyAfterwards();
         document.says("Promise 54", "Returns the number of commands.");
         numberOfCommands();
-        document.says("Promise 55", "Returns the error position of the latest script that did not have the required form.");
+        document.says("Promise 55",
+            "Returns the error position of the latest script that did not have the required form.");
         latestErrorPosition();
         document.says("Promise 56", "Returns the index of the command that failed in the latest script with a failed "
             + "command.");
@@ -67,6 +71,9 @@ public final class ScriptsAndChangesTest {
         document.says("Promise 59", "Restores the snapshot, which is kept. Afterwards there is nothing to undo.");
         snapshotIsKept();
         nothingToUndoAfterwards();
+        document.says("Promise 58", "Returns the number of waiting noises.");
+        document.says("Promise 59", "Returns the number of waiting noises after the call.");
+        waitingWhenSavedAndRestored();
         CHECKS.end();
     }
 
@@ -103,8 +110,8 @@ public final class ScriptsAndChangesTest {
 
     /** Every command, with the least and the greatest digits, and with one sign too few or too many. */
     private static void formsOfCommands() {
-        String[] forms = {"noise 0 9 0", "noise 9 0 99", "drop 0", "drop 99", "gear 0 9", "gear 9 0", "mesh 0 9", "mesh 9 0",
-            "clear 0", "clear 9", "release 0", "release 9", "ship 0 9", "ship 9 0", "step 0", "step 99"};
+        String[] forms = {"noise 0 9 0", "noise 9 0 99", "drop 0", "drop 99", "gear 0 9", "gear 9 0", "mesh 0 9",
+            "mesh 9 0", "clear 0", "clear 9", "release 0", "release 9", "ship 0 9", "ship 9 0", "step 0", "step 99"};
         for (String form : forms) {
             CHECKS.holds(form + " has the form", !Mills.script(new NoiseMill(), form).startsWith("no form"));
             int space = form.indexOf(' ');
@@ -525,5 +532,24 @@ public final class ScriptsAndChangesTest {
         CHECKS.equal("undo", mill.undo(), 0);
         CHECKS.fails("nothing to undo", Mills.STATE, mill::undo);
         CHECKS.equal("mesh", mill.mesh(0), 2);
+    }
+
+    private static void waitingWhenSavedAndRestored() {
+        NoiseMill mill = Mills.full();
+        CHECKS.equal("save with 12", mill.save(), 12);
+        mill.advance(1);
+        CHECKS.equal("restore with 9", mill.restore(), 12);
+        CHECKS.equal("waitingCount", mill.waitingCount(), 12);
+        for (int noise = 0; noise < 12; noise++) {
+            mill.removeNoise(noise);
+        }
+        CHECKS.equal("restore with none", mill.restore(), 12);
+        mill.advance(1);
+        CHECKS.equal("those on wheels do not wait", mill.save(), 9);
+        NoiseMill other = new NoiseMill();
+        CHECKS.equal("save with none", other.save(), 0);
+        other.addNoise(1, 1, 1);
+        CHECKS.equal("restore with 1", other.restore(), 0);
+        CHECKS.equal("waitingCount", other.waitingCount(), 0);
     }
 }

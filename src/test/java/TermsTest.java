@@ -27,12 +27,14 @@ public final class TermsTest {
         twelveWait();
         document.says("Terms", "A noise whose amount becomes 0 is done and does not exist any more.");
         doneAtZero();
-        document.says("Terms", "The waiting noises are ordered by loudness, the greatest first, and then by number, the "
+        document.says("Terms",
+            "The waiting noises are ordered by loudness, the greatest first, and then by number, the "
             + "lowest first.");
         orderOfWaiting();
         document.says("Terms", "There are the wheels 0 to 2.");
         threeWheels();
-        document.says("Terms", "A wheel has a gear from 1 to 5, initially 1, and a wear, initially 0, and holds at most "
+        document.says("Terms",
+            "A wheel has a gear from 1 to 5, initially 1, and a wear, initially 0, and holds at most "
             + "one noise.");
         wheelAtFirst();
         document.says("Terms", "It is jammed if its wear is at least 12.");
@@ -43,10 +45,12 @@ public final class TermsTest {
         gradeOfEachMesh();
         document.says("Terms", "A sack holds 20 grains.");
         sackOf20();
-        document.says("Terms", "The flour of a grade that is in the mill is from 0 to 139 grains: these are full sacks, "
+        document.says("Terms",
+            "The flour of a grade that is in the mill is from 0 to 139 grains: these are full sacks, "
             + "as many as possible, and the rest is in an open sack.");
         flourUpTo139();
-        document.says("Terms", "When grains of a grade are sacked, they become flour of this grade; only the grains that "
+        document.says("Terms",
+            "When grains of a grade are sacked, they become flour of this grade; only the grains that "
             + "would make it more than 139 are lost, for want of room.");
         lostBeyond139();
         document.says("Terms", "Full sacks can be shipped; then they are not in the mill any more.");
@@ -59,16 +63,19 @@ public final class TermsTest {
         jammedKeepsItsNoise();
         document.says("Terms", "Any other wheel that holds no noise takes the first waiting noise, if there is one.");
         takesTheFirst();
-        document.says("Terms", "If it holds a noise then, it grinds twice as many grains as its gear, but not more than "
+        document.says("Terms",
+            "If it holds a noise then, it grinds twice as many grains as its gear, but not more than "
             + "the amount of the noise; the amount decreases by the number of ground grains, and the wear of the wheel "
             + "increases by its gear.");
         grindsTwiceItsGear();
-        document.says("Terms", "Of the ground grains, their number times the mesh for the band of the noise, divided by "
+        document.says("Terms",
+            "Of the ground grains, their number times the mesh for the band of the noise, divided by "
             + "10, are lost in the sieve; the others are sacked with the grade of this mesh.");
         lostInTheSieve();
         document.says("Terms", "A wheel whose noise is done takes another one in the next step at the earliest.");
         takesInTheNextStep();
-        document.says("Terms", "For each band and each grade, the grains that were sacked from noises of this band with "
+        document.says("Terms",
+            "For each band and each grade, the grains that were sacked from noises of this band with "
             + "this grade are recorded; grains that were lost are not.");
         onlySackedIsRecorded();
         document.says("Terms", "Shipping does not change the records.");
